@@ -392,7 +392,7 @@ public final class RoleSessions {
 
         private Type readVariable(int usable) {
             int variable = text.offsetAt(place, 'X', VARIABLES);
-            if (variable == NONE || (usable & 1 << variable) == 0) {
+            if (variable == NONE || (usable & (1 << variable)) == 0) {
                 return null;
             }
             place++;
@@ -455,7 +455,7 @@ public final class RoleSessions {
             }
             place++;
             Type message = new Type(MESSAGE, sender, receiver);
-            message.roles = 1 << sender | 1 << receiver;
+            message.roles = (1 << sender) | (1 << receiver);
             return message;
         }
 
@@ -468,7 +468,7 @@ public final class RoleSessions {
 
         private Type readBranch(int used, int bound) {
             int label = text.offsetAt(place, 'f', LABELS);
-            if (label == NONE || (used & 1 << label) != 0) {
+            if (label == NONE || (used & (1 << label)) != 0) {
                 return null;
             }
             place++;
@@ -522,7 +522,7 @@ public final class RoleSessions {
 
         private static Type partOfLoop(Type loop, int r, int depth) {
             // The part of the loop's type isn't asked for then: it is e even where that part doesn't exist.
-            if ((loop.roles & 1 << r) == 0 && loop.freeVariables == 0) {
+            if ((loop.roles & (1 << r)) == 0 && loop.freeVariables == 0) {
                 return new Type(END, NONE, NONE);
             }
             Type body = partOf(loop.first, r, depth + 1);
@@ -715,20 +715,30 @@ public final class RoleSessions {
         void build(Type type, Machine machine) {
             machine.clear();
             stateCount = 0;
-            if (!number(type, 0)) {
+            if (!number(type, 0) || beginningOf(type) == null) {
                 return;
             }
             for (int s = 0; s < stateCount; s++) {
-                Type state = states[s];
-                machine.addState(state.kind, state.subject);
-                for (Type branch = state.first; branch != null; branch = branch.next) {
-                    Type target = beginningOf(branch);
-                    machine.addBranch(branch.label, branch.sort, target == null ? NONE : target.number);
+                if (!copyState(states[s], machine)) {
+                    machine.clear();
+                    return;
                 }
             }
         }
 
-        /** Numbers the states and ties the variables to their loops; false if there is no machine. */
+        private static boolean copyState(Type state, Machine machine) {
+            machine.addState(state.kind, state.subject);
+            for (Type branch = state.first; branch != null; branch = branch.next) {
+                Type target = beginningOf(branch);
+                if (target == null) {
+                    return false;
+                }
+                machine.addBranch(branch.label, branch.sort, target.number);
+            }
+            return true;
+        }
+
+        /** Numbers the states and ties the variables to their loops; false if a variable has none. */
         private boolean number(Type type, int depth) {
             if (type == null || depth > TYPE_LIMIT) {
                 return false;
@@ -749,7 +759,7 @@ public final class RoleSessions {
             loops[loop.subject] = loop;
             boolean numbered = number(loop.first, depth + 1);
             loops[loop.subject] = outer;
-            return numbered && beginningOf(loop) != null;
+            return numbered;
         }
 
         private boolean numberState(Type type, int depth) {

@@ -8,6 +8,7 @@ public final class Promise03ProtocolTest {
         sixLabels(c);
         aNewProtocolClearsAll(c);
         aFaultLeavesAll(c);
+        oneTextAfterTheOther(c);
         c.finish();
     }
 
@@ -145,5 +146,20 @@ public final class Promise03ProtocolTest {
         c.machineDue(x, 0, "b!f0>1 .");
         c.due("part(0)", x.part(0), 3);
         c.due("take(1, 0)", x.take(1, 0), 1);
+    }
+
+    private static void oneTextAfterTheOther(Checks c) {
+        RoleSessions x = new RoleSessions();
+        // what an earlier, longer text had is not there any more
+        c.due("protocol()", Checks.typed(x, "a>b{f0:e,g0:e}").protocol(), 3);
+        c.due("protocol()", Checks.typed(x, "a>b{f0:e").protocol(), -108);
+        c.due("protocol()", Checks.typed(x, "a>b{f0").protocol(), -106);
+        c.due("protocol()", Checks.typed(x, "").protocol(), -100);
+        for (int k = 0; k < 8; k++) {
+            c.due("protocol()", Checks.typed(x, "c>d{f0:e,g0:e,h0:e,i0:e,j0:e,k0:e}").protocol(), 7);
+            c.machineDue(x, 2, "d!f0>1,g0>2,h0>3,i0>4,j0>5,k0>6 . . . . . .");
+            c.machineDue(x, 3, "c?f0>1,g0>2,h0>3,i0>4,j0>5,k0>6 . . . . . .");
+            c.machineDue(x, 0, ".");
+        }
     }
 }

@@ -10,6 +10,7 @@ public final class Promise05ProcessTest {
         pairsThatComeAgain(c);
         noPart(c);
         whatBecomesOfTheRest(c);
+        oneProcessAfterTheOther(c);
         c.finish();
     }
 
@@ -125,5 +126,17 @@ public final class Promise05ProcessTest {
         c.machineDue(x, 0, "b!f0>1 .");
         c.machineDue(x, 1, "a?f0>1,g0>2 . .");
         c.due("size(1)", x.size(1), 3);
+    }
+
+    private static void oneProcessAfterTheOther(Checks c) {
+        RoleSessions x = Checks.withProtocol("a>b{f0:e,g0:a>b{f0:e}}");
+        for (int k = 0; k < 8; k++) {
+            c.processDue(x, 0, "b!{g0:b!{f0:e},f0:e}", 4);
+            c.machineDue(x, 0, "b!g0>1,f0>3 b!f0>2 . .");
+            c.processDue(x, 0, "b!{g0:b!{g0:e},f0:e}", RoleSessions.REFUSED);
+            c.processDue(x, 1, "a?{g0:a?{f0:e},f0:e,h0:e}", 5);
+            c.processDue(x, 1, "a?{g0:a?{g0:e},f0:e,h0:e}", RoleSessions.REFUSED);
+            c.machineDue(x, 1, "a?g0>1,f0>3,h0>4 a?f0>2 . . .");
+        }
     }
 }

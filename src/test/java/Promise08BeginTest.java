@@ -35,6 +35,10 @@ public final class Promise08BeginTest {
         c.due("begin() where c has no machine", x.begin(), false);
         c.due("size(2)", x.size(2), 0);
         c.due("at(0, 0)", x.at(0, 0), RoleSessions.BAD);
+        c.due("begin() where a alone has no machine",
+                Checks.withProtocol("c>d{f0:a>b{f0:e},g0:a>b{g0:e}}").begin(), false);
+        c.due("begin() where d alone has no machine",
+                Checks.withProtocol("a>b{f0:d>c{f0:e},g0:d>c{g0:e}}").begin(), false);
     }
 
     private static void withProcesses(Checks c) {

@@ -2,8 +2,8 @@ import java.lang.reflect.Field;
 import java.lang.reflect.Method;
 
 /**
- * Promises 10, 13 and 16 where the first letter doesn't fit. By the face no such letter comes into a queue, as
- * parts, processes and the monitor agree, so the test puts it there itself.
+ * Promises 10, 13 and 16 where the first letter doesn't fit. No run of calls is known that brings such a letter
+ * into a queue, so the test puts it there itself.
  */
 public final class MisfitTest {
     public static void main(String[] args) throws ReflectiveOperationException {

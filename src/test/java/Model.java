@@ -437,6 +437,10 @@ final class Model {
 
     // ---- the calls
 
+    String text() {
+        return text.toString();
+    }
+
     int type(char c) {
         if (text.length() == 100) {
             return -1;

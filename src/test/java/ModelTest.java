@@ -1,4 +1,5 @@
 import java.util.ArrayList;
+import java.util.Arrays;
 import java.util.Collections;
 import java.util.List;
 import java.util.Random;
@@ -6,16 +7,7 @@ import java.util.Random;
 /** Random runs of calls, each answer held against Model; arguments: how many runs, and the first seed. */
 public final class ModelTest {
     private static final String ALPHABET = "eXYZmabcd>{}:,fghijk012.!?";
-
-    private final Random random;
-    private final List<String> log = new ArrayList<>();
-    private final RoleSessions x = new RoleSessions();
-    private final Model model = new Model();
-    private int calls;
-
-    private ModelTest(long seed) {
-        random = new Random(seed);
-    }
+    private static final int CALL_LIMIT = 512;
 
     // how often each kind of answer came up: a test that never gets there tests nothing
     private static int begun;
@@ -25,6 +17,18 @@ public final class ModelTest {
     private static int misfits;
     private static int partsWithoutMachine;
     private static int faultsOfStrangers;
+
+    private final Random random;
+    private final List<String> log = new ArrayList<>();
+    private final RoleSessions x = new RoleSessions();
+    private final Model model = new Model();
+    private final String[] processTexts = new String[4];
+    private String protocolText = "";
+    private int calls;
+
+    private ModelTest(long seed) {
+        random = new Random(seed);
+    }
 
     public static void main(String[] args) {
         int runs = args.length > 0 ? Integer.parseInt(args[0]) : 3000;
@@ -48,7 +52,7 @@ public final class ModelTest {
     }
 
     private boolean run() {
-        while (calls < 400) {
+        while (canCall(1)) {
             if (random.nextInt(12) > 0 && !typeProtocol()) {
                 return false;
             }
@@ -57,16 +61,21 @@ public final class ModelTest {
                     return false;
                 }
             }
-            if (random.nextInt(8) > 0 && !begin()) {
+            if (canCall(1) && random.nextInt(8) > 0 && !begin()) {
                 return false;
             }
-            for (int k = random.nextInt(150); k > 0 && calls < 512; k--) {
+            for (int k = random.nextInt(150); k > 0 && canCall(1); k--) {
                 if (!(random.nextInt(4) == 0 ? look() : act())) {
                     return false;
                 }
             }
         }
         return true;
+    }
+
+    /** Nothing is promised of an object after its 512th call. */
+    private boolean canCall(int times) {
+        return calls + times <= CALL_LIMIT;
     }
 
     private boolean same(String call, int got, int want) {
@@ -95,11 +104,19 @@ public final class ModelTest {
         if (random.nextInt(5) == 0) {
             text = spoiled(text);
         }
+        if (!canCall(text.length() + 6)) {
+            return true;
+        }
+        String all = model.text() + text;
         if (!typeText(text)) {
             return false;
         }
         int answer = model.protocol();
         faultyTexts += answer < 0 ? 1 : 0;
+        if (answer > 0) {
+            protocolText = all;
+            Arrays.fill(processTexts, null);
+        }
         if (!same("protocol()", x.protocol(), answer)) {
             return false;
         }
@@ -122,30 +139,53 @@ public final class ModelTest {
             text = spoiled(text);
         }
         int asked = random.nextInt(20) == 0 ? r + 4 : r;
+        if (!canCall(text.length() + 2)) {
+            return true;
+        }
+        String all = model.text() + text;
         if (!typeText(text)) {
             return false;
         }
         int answer = model.process(asked);
+        if (answer > 0) {
+            processTexts[r] = all;
+        }
         refinedProcesses += answer > 0 ? 1 : 0;
         refusedProcesses += answer == -2 ? 1 : 0;
         faultyTexts += answer <= -100 ? 1 : 0;
         return same("process(" + asked + ")", x.process(asked), answer) && sameMachine(r);
     }
 
+    /** Looks at all of a machine on an object of its own, since each look is a call. */
     private boolean sameMachine(int r) {
+        RoleSessions y = new RoleSessions();
+        Checks.typed(y, protocolText).protocol();
+        if (processTexts[r] != null) {
+            Checks.typed(y, processTexts[r]).process(r);
+        }
         List<Model.State> machine = model.machine(r);
         int states = machine == null ? 0 : machine.size();
         for (int s = 0; s <= states; s++) {
             for (int what = 0; what < 3; what++) {
-                if (x.state(r, s, what) != model.state(r, s, what)) {
-                    return same("state(" + r + "," + s + "," + what + ")", x.state(r, s, what), model.state(r, s, what));
+                if (y.state(r, s, what) != model.state(r, s, what)) {
+                    log.add("state(" + r + "," + s + "," + what + ") of a new object differs");
+                    return false;
                 }
-                for (int k = 0; k < 7; k++) {
-                    if (x.label(r, s, k, what) != model.label(r, s, k, what)) {
-                        return same("label(" + r + "," + s + "," + k + "," + what + ")",
-                                x.label(r, s, k, what), model.label(r, s, k, what));
-                    }
+            }
+            for (int k = 0; k <= model.state(r, s, 2); k++) {
+                if (!sameLabel(y, r, s, k)) {
+                    log.add("label(" + r + "," + s + "," + k + ", ..) of a new object differs");
+                    return false;
                 }
+            }
+        }
+        return true;
+    }
+
+    private boolean sameLabel(RoleSessions y, int r, int s, int k) {
+        for (int what = 0; what < 3; what++) {
+            if (y.label(r, s, k, what) != model.label(r, s, k, what)) {
+                return false;
             }
         }
         return true;

@@ -11,6 +11,7 @@ public final class RoomTest {
 
     public static void main(String[] args) {
         Checks c = new Checks("the room");
+        c.sentence("all calls of one run live in one room");
         RoleSessions x = new RoleSessions();
         readTexts(x);
         long before = THREADS.getCurrentThreadAllocatedBytes();

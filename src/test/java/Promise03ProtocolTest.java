@@ -124,11 +124,11 @@ public final class Promise03ProtocolTest {
         c.due("protocol()", Checks.typed(x, "a>b{f0:e").protocol(), -108);
         c.due("protocol()", Checks.typed(x, "a>b{f0").protocol(), -106);
         c.due("protocol()", x.protocol(), -100);
-        for (int k = 0; k < 3; k++) {
+        for (int k = 0; k < 8; k++) {
             c.due("protocol()", Checks.typed(x, "c>d{f0:e,g0:e,h0:e,i0:e,j0:e,k0:e}").protocol(), 7);
-            c.machineDue(x, 2, "d!f0>1,g0>2,h0>3,i0>4,j0>5,k0>6 . . . . . .");
-            c.machineDue(x, 3, "c?f0>1,g0>2,h0>3,i0>4,j0>5,k0>6 . . . . . .");
-            c.machineDue(x, 0, ".");
         }
+        c.machineDue(x, 2, "d!f0>1,g0>2,h0>3,i0>4,j0>5,k0>6 . . . . . .");
+        c.machineDue(x, 3, "c?f0>1,g0>2,h0>3,i0>4,j0>5,k0>6 . . . . . .");
+        c.machineDue(x, 0, ".");
     }
 }

@@ -167,5 +167,15 @@ public final class Promise05ProcessTest {
         }
         c.machineDue(x, 1, "a?g0>1,f0>3,h0>4 a?f0>2 . . .");
         c.machineDue(x, 0, "b!g0>1,f0>3 b!f0>2 . .");
+        // what was held against the part before has nothing to do with the next one
+        x = Checks.withProtocol("a>b{f0:e,g0:b>a{f0:e}}");
+        c.processDue(x, 0, "b!{g0:b?{f0:e}}", 3);
+        c.processDue(x, 0, "b!{f0:e,g0:b?{f0:e}}", 4);
+        c.processDue(x, 0, "b!{f0:b?{f0:e}}", REFUSED);
+        c.processDue(x, 0, "b!{f0:e}", 2);
+        c.processDue(x, 0, "b!{g0:e}", REFUSED);
+        c.processDue(x, 0, "b!{g0:b?{f0:e},f0:e}", 4);
+        c.processDue(x, 1, "a?{g0:a!{f0:e},f0:e}", 4);
+        c.processDue(x, 2, "e", 1);
     }
 }

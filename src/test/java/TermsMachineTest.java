@@ -51,6 +51,9 @@ public final class TermsMachineTest {
         c.partDue("mX." + "mY.".repeat(27) + "a>b{f0:e}", 0, "b!f0>1 .");
         c.partDue("mX.a>b{f0:" + "mY.".repeat(27) + "X}", 0, "b!f0>0");
         c.partDue("mX.".repeat(29) + "e", 0, ".");
+        c.partDue("mX.".repeat(27) + "a>b{f0:a>b{f0:e}}", 0, "b!f0>1 b!f0>2 .");
+        c.partDue("mX.".repeat(27) + "a>b{f0:a>b{f0:X}}", 1, "a?f0>1 a?f0>0");
+        c.partDue("a>b{f0:" + "mX.".repeat(26) + "c>d{f0:X}}", 2, "d!f0>0");
         RoleSessions x = Checks.withProtocol("mX.a>b{f0:X}");
         c.processDue(x, 0, "mX." + "mZ.".repeat(27) + "b!{f0:X}", 1);
         c.machineDue(x, 0, "b!f0>0");

@@ -68,6 +68,10 @@ public final class TermsMergingTest {
         c.partsDue("a>b{f0:mY.c>a{f0:Y},g0:mY.c>a{g0:Y}}", 3, 3, 0, 1);
         // a variable that one loop has alone leads to the beginning of the merged one
         c.partDue("mX.b>c{f0:a>b{f0:mY.b>c{g0:X},g0:mY.b>c{h0:Y}}}", 2, "b?f0>1 b?g0>0,h0>1");
+        // however deep the types are
+        String deep = "mX.".repeat(11);
+        c.partDue("a>b{f0:" + deep + "b>c{f0:X},g0:" + deep + "b>c{g0:X}}", 2, "b?f0>0,g0>0");
+        c.partsDue("a>b{f0:" + deep + "c>b{f0:X},g0:" + deep + "c>b{g0:X}}", 3, 3, 0, 1);
         // a loop round a variable is not the variable
         c.partsDue("mX.c>a{f0:a>b{f0:mY.a>b{f0:X},g0:X}}", 3, 2, 0, 1);
     }

@@ -12,6 +12,7 @@ public final class TermsRefiningTest {
         receivings(c);
         goodPairsBehind(c);
         pairsThatComeAgain(c);
+        manyPairs(c);
         noPart(c);
         c.finish();
     }
@@ -103,6 +104,28 @@ public final class TermsRefiningTest {
         c.processDue(ASKING, 1, "mX.a?{f0:a!{g0:a?{f0:a!{g0:X},h1:e}},h1:e}", 6);
         c.processDue(ASKING, 1, "mX.a?{f0:a!{g0:a?{f0:a!{g0:X}}},h1:e}", REFUSED);
         c.processDue(ASKING, 1, "mX.a?{f0:a!{g0:X}}", REFUSED);
+        // however many pairs come up again before the one that something is against
+        String again = "f0:X,g0:X,h0:X,i0:X,j0:X,k0:";
+        String protocol = "mX.a>b{" + again + "a>b{k0:a>b{k0:a>b{k0:a>b{k0:a>b{k0:e}}}}}}";
+        c.processDue(protocol, 0, "mX.b!{" + again + "b!{k0:b!{k0:b!{k0:b!{k0:b!{k0:e}}}}}}", 7);
+        c.processDue(protocol, 0, "mX.b!{" + again + "b!{k0:b!{k0:b!{k0:b!{k0:b!{k1:e}}}}}}", REFUSED);
+        c.processDue(protocol, 1, "mX.a?{" + again + "a?{k0:a?{k0:a?{k0:a?{k0:a?{j0:e}}}}}}", REFUSED);
+    }
+
+    private static void manyPairs(Checks c) {
+        c.sentence("both go on with a good pair, however late it comes up");
+        String row = "a>b{f0:".repeat(12) + "e" + "}".repeat(12);
+        c.processDue(row, 0, "b!{f0:".repeat(12) + "e" + "}".repeat(12), 13);
+        c.processDue(row, 0, "b!{f0:".repeat(11) + "b!{g0:e}" + "}".repeat(11), REFUSED);
+        c.processDue(row, 0, "b!{f0:".repeat(11) + "e" + "}".repeat(11), REFUSED);
+        c.processDue(row, 1, "a?{f0:".repeat(12) + "a?{f0:e}" + "}".repeat(12), REFUSED);
+        // rounds of five and of seven: the process's first state meets the part's last one after fourteen steps
+        String seven = "mX.b!{g0:e,f0:" + "b!{f0:".repeat(6) + "X" + "}".repeat(7);
+        c.processDue("mX." + "a>b{g0:e,f0:".repeat(4) + "a>b{f0:X}}}}}", 0, seven, REFUSED);
+        c.processDue("mX." + "a>b{g0:e,f0:".repeat(4) + "a>b{f0:X,g0:e}}}}}", 0, seven, 8);
+        // rounds of five and of five never meet so
+        String five = "mX.b!{g0:e,f0:" + "b!{f0:".repeat(4) + "X" + "}".repeat(5);
+        c.processDue("mX." + "a>b{g0:e,f0:".repeat(4) + "a>b{f0:X}}}}}", 0, five, 6);
     }
 
     private static void noPart(Checks c) {

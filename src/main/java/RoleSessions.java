@@ -66,7 +66,7 @@ public final class RoleSessions {
             return FAULT_BASE - reader.place();
         }
         for (int r = 0; r < ROLES; r++) {
-            builder.build(Projection.partOf(type, r, 0), parts[r]);
+            builder.build(Projection.partFor(r, type), parts[r]);
             hasProcess[r] = false;
         }
         protocolTypes = reader.typeCount();
@@ -504,7 +504,11 @@ public final class RoleSessions {
 
     /** The part of a role in a global type; null stands for no part. */
     private static final class Projection {
-        static Type partOf(Type type, int r, int depth) {
+        static Type partFor(int r, Type type) {
+            return partOf(type, r, 0);
+        }
+
+        private static Type partOf(Type type, int r, int depth) {
             if (type == null || depth > TYPE_LIMIT) {
                 return null;
             }

@@ -8,7 +8,7 @@ import java.util.TreeSet;
 /** The class has the face of the document and no more that can be seen from outside. */
 public final class FaceTest {
     private static final Set<String> FACE = Set.of(
-            "int BAD", "int REFUSED", "int WAIT", "int MISFIT",
+            "static final int BAD", "static final int REFUSED", "static final int WAIT", "static final int MISFIT",
             "RoleSessions()", "int type(char)", "int protocol()", "int part(int)", "int process(int)",
             "int state(int,int,int)", "int label(int,int,int,int)", "boolean begin()", "int send(int,int)",
             "int receive(int)", "boolean estrange(int)", "int say(int,int,int,int)", "int take(int,int)",
@@ -36,7 +36,8 @@ public final class FaceTest {
 
     private static void add(Set<String> seen, int modifiers, String what) {
         if (!Modifier.isPrivate(modifiers)) {
-            seen.add(Modifier.isPublic(modifiers) ? what : "not public: " + what);
+            String told = Modifier.toString(modifiers) + " " + what;
+            seen.add(told.startsWith("public ") ? told.substring("public ".length()) : told);
         }
     }
 
